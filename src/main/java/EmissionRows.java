@@ -511,7 +511,6 @@ public final class EmissionRows {
         }
 
         private void begin(int mode) {
-            length = 0;
             add(ANSWERS_TO_MODE + mode);
         }
 

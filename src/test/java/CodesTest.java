@@ -1,7 +1,7 @@
 /** Promises 3 (its second step), 7, 8, 9 and 11: codes from pending to permanent, clear, frozen rows. */
 public final class CodesTest {
     private static final Check CHECK = new Check();
-    private static final int ON = 1;
+    private static final int ZERO_HOLDS = 1;
 
     public static void main(String[] args) {
         faultNumbersAndRefusals();
@@ -152,10 +152,10 @@ public final class CodesTest {
         rows.fault(7, false);
         cycles(rows, 254, 254, 254, 254, 254, 254);
         CHECK.answer(rows, 10, 0, 74, 0, 7);
-        cycles(rows, ON, 0, 255, 0);
+        cycles(rows, ZERO_HOLDS, 0, 255, 0);
         CHECK.answer(rows, 10, 0, 74, 0, 7);
         CHECK.due(7, rows.permanent(0), "permanent(0) after two cycles with condition 0");
-        cycles(rows, ON);
+        cycles(rows, ZERO_HOLDS);
         CHECK.answer(rows, 10, 0, 74);
         CHECK.due(0, rows.permanent(0), "permanent(0) after three cycles with condition 0");
     }
@@ -163,15 +163,15 @@ public final class CodesTest {
     private static void permanentCountsSinceItWasOnLast() {
         EmissionRows rows = confirmed(7);
         rows.fault(7, false);
-        cycles(rows, ON, ON);
+        cycles(rows, ZERO_HOLDS, ZERO_HOLDS);
         rows.fault(7, true);
-        cycles(rows, ON);
+        cycles(rows, ZERO_HOLDS);
         rows.fault(7, false);
-        cycles(rows, ON, ON);
+        cycles(rows, ZERO_HOLDS, ZERO_HOLDS);
         CHECK.due(7, rows.permanent(0), "permanent(0) after two and two");
         rows.fault(7, true);
         rows.fault(7, false);
-        cycles(rows, ON);
+        cycles(rows, ZERO_HOLDS);
         CHECK.due(0, rows.permanent(0), "permanent(0) after two and three");
         CHECK.answer(rows, 3, 0, 67);
     }
@@ -179,17 +179,17 @@ public final class CodesTest {
     private static void permanentOutlivesConfirmed() {
         EmissionRows rows = confirmed(7);
         rows.fault(7, false);
-        cycles(rows, ON, 0, ON);
+        cycles(rows, ZERO_HOLDS, 0, ZERO_HOLDS);
         CHECK.answer(rows, 3, 0, 67);
         CHECK.due(7, rows.permanent(0), "permanent(0) when it is confirmed no more");
         rows.fault(7, true);
-        cycles(rows, ON);
+        cycles(rows, ZERO_HOLDS);
         CHECK.answer(rows, 7, 0, 71, 0, 7);
         rows.fault(7, false);
-        cycles(rows, ON, ON);
+        cycles(rows, ZERO_HOLDS, ZERO_HOLDS);
         CHECK.answer(rows, 7, 0, 71);
         CHECK.due(7, rows.permanent(0), "permanent(0), counted anew");
-        cycles(rows, ON);
+        cycles(rows, ZERO_HOLDS);
         CHECK.due(0, rows.permanent(0), "permanent(0), gone");
     }
 
@@ -205,7 +205,7 @@ public final class CodesTest {
         cycles(rows, 0);
         permanents(rows, 500, 3, 400, 65535);
         rows.fault(400, false);
-        cycles(rows, ON, ON, ON);
+        cycles(rows, ZERO_HOLDS, ZERO_HOLDS, ZERO_HOLDS);
         permanents(rows, 500, 3, 65535);
         CHECK.answer(rows, 10, 0, 74, 1, 244, 0, 3, 255, 255);
     }
@@ -253,10 +253,10 @@ public final class CodesTest {
     private static void clearKeepsWhatPermanentCounts() {
         EmissionRows rows = confirmed(7);
         rows.fault(7, false);
-        cycles(rows, ON, ON);
+        cycles(rows, ZERO_HOLDS, ZERO_HOLDS);
         rows.clear();
         CHECK.due(7, rows.permanent(0), "permanent(0) after clear()");
-        cycles(rows, ON);
+        cycles(rows, ZERO_HOLDS);
         CHECK.due(0, rows.permanent(0), "permanent(0), two before clear() and one behind");
         CHECK.answer(rows, 7, 0, 71);
     }
