@@ -4,7 +4,8 @@ public final class AnswersTest {
 
     public static void main(String[] args) {
         readinessBitsByKinds();
-        otherModesAndIdsHaveNone();
+        otherModesHaveNone();
+        otherIdsHaveNone();
         theOneBeforeIsGone();
         frozenConditionsByIds();
         cycleInTwoOctets();
@@ -28,7 +29,7 @@ public final class AnswersTest {
         }
     }
 
-    private static void otherModesAndIdsHaveNone() {
+    private static void otherModesHaveNone() {
         EmissionRows rows = new EmissionRows();
         for (int id : new int[] {0, 1, 8, 33}) {
             CHECK.answer(rows, 2, id);
@@ -40,6 +41,12 @@ public final class AnswersTest {
                 CHECK.answer(rows, mode, id);
             }
         }
+    }
+
+    private static void otherIdsHaveNone() {
+        EmissionRows rows = new EmissionRows();
+        rows.fault(7, true);
+        rows.cycle(0, 0);
         for (int id : new int[] {-1, 0, 2, 8, 32, 34, 257, Integer.MIN_VALUE, Integer.MAX_VALUE}) {
             CHECK.answer(rows, 1, id);
         }

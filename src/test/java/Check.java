@@ -2,27 +2,37 @@
 final class Check {
     private int compared = 0;
     private int wrong = 0;
+    private String sentence = "";
+
+    /** Names the document's sentence that the comparisons from here on hold, for what is printed. */
+    void sentence(String place, String words) {
+        sentence = place + " \"" + words + "\": ";
+    }
 
     void due(long due, long answered, String call) {
+        compare(due == answered, call + " answered " + answered + ", due is " + due);
+    }
+
+    void same(String due, String answered, String call) {
+        compare(due.equals(answered), call + " answered [" + answered + "], due is [" + due + "]");
+    }
+
+    private void compare(boolean right, String otherwise) {
         compared++;
-        if (due != answered) {
+        if (!right) {
             wrong++;
-            System.out.println(call + " answered " + answered + ", due is " + due);
+            System.out.println(sentence + otherwise);
         }
     }
 
     void thrown(Class<? extends RuntimeException> due, Runnable call, String name) {
-        compared++;
         Class<?> thrown = null;
         try {
             call.run();
         } catch (RuntimeException e) {
             thrown = e.getClass();
         }
-        if (thrown != due) {
-            wrong++;
-            System.out.println(name + " threw " + thrown + ", due is " + due);
-        }
+        compare(thrown == due, name + " threw " + thrown + ", due is " + due);
     }
 
     /** Asks for an answer and compares its length and every octet, and what stands around it. */

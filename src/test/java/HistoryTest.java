@@ -2,8 +2,10 @@ import java.util.Random;
 
 /** Long runs of mixed calls (the same ones every time), each answer compared with HistoryModel's. */
 public final class HistoryTest {
-    private static final int RUNS = 400;
+    private static final int RUNS = 500;
+    /** An object is promised 512 calls, and looking at an answer takes one for each octet and five more. */
     private static final int CALLS = 512;
+    private static final int LONGEST_LOOK = 1 + 41 + 5;
     private static final Check CHECK = new Check();
 
     private final Random random;
@@ -12,6 +14,7 @@ public final class HistoryTest {
     private final int codes;
     private final int cyclesInHundred;
     private final int clearsInThousand;
+    private int calls = 0;
 
     private HistoryTest(int seed) {
         random = new Random(seed);
@@ -23,8 +26,9 @@ public final class HistoryTest {
     public static void main(String[] args) {
         for (int seed = 0; seed < RUNS; seed++) {
             HistoryTest run = new HistoryTest(seed);
-            for (int call = 0; call < CALLS; call++) {
-                run.someCall("run " + seed + ", call " + call + ": ");
+            while (run.calls + LONGEST_LOOK <= CALLS) {
+                run.calls++;
+                run.someCall("run " + seed + ", call " + run.calls + ": ");
             }
         }
         CHECK.end();
@@ -91,6 +95,7 @@ public final class HistoryTest {
         String call = place + "answer(" + one[0] + ", " + one[1] + ")";
         CHECK.due(model.answer(one[0], one[1]), rows.answer(one[0], one[1]), call);
         CHECK.octets(rows, call, model.octets());
+        calls += model.octets().length + 5;
     }
 
     private long ratio(int monitor, int side) {

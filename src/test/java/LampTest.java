@@ -78,7 +78,7 @@ public final class LampTest {
         rows.lamp(1, 1);
         CHECK.answer(rows, 1, 33, 65, 33, 255, 255);
         CHECK.due(65535, rows.freeze(3), "minutes beyond their most");
-        for (int i = 0; i < 300; i++) {
+        for (int i = 0; i < 200; i++) {
             CHECK.due(1, rows.lamp(1000000000L, 1000000000L), "lamp at its most");
             CHECK.due(65535, rows.freeze(3), "minutes far beyond their most");
         }
