@@ -2,8 +2,6 @@
 final class Cars {
     /** The codes of withCodes are this one and those behind it. */
     static final int FIRST_CODE = 0x0180;
-    static final int MOST_CODES = 20;
-    static final int MOST_MONITORS = 16;
 
     private Cars() {
     }

@@ -172,7 +172,7 @@ public final class MonitorEdgesTest {
         CHECK.due(0, new EmissionRows().cycle(ALL, 65535), "cycle without a monitor");
     }
 
-    /** Every row of CONDITIONS, each on one object for a monitor of the kind: the chances due are the caller's. */
+    /** Whether a monitor on a CONDITION is due a CHANCE, by which of the eight hold. */
     private interface Chance {
         boolean due(boolean[] holds, int condition);
     }

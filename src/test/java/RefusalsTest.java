@@ -106,7 +106,8 @@ public final class RefusalsTest {
                 CHECK.due(step(plain, step), step(refused, step), "step " + step + " with refusals" + place);
             }
         }
-        CHECK.same(Cars.everythingOf(plain), Cars.everythingOf(refused), "all that is told at step " + end + " with refusals" + place);
+        CHECK.same(Cars.everythingOf(plain), Cars.everythingOf(refused),
+            "all that is told at step " + end + " with refusals" + place);
     }
 
     private static void whatIsThrownChangesNothing() {
